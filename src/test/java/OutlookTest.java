@@ -18,6 +18,7 @@ public final class OutlookTest {
         worst();
         narrow();
         odds();
+        theMost();
         nothingIsDone();
         goesUnder();
         Due.finish("OutlookTest");
@@ -347,6 +348,40 @@ public final class OutlookTest {
         Due.is("the first", u.odds(0, 1), 25);
         Due.is("the second goes DOWN by the first that goes DOWN", u.odds(1, 0), 14);
         Due.is("the second goes DOWN by the first that goes DOWN", u.odds(1, 1), 25);
+    }
+
+    /** Eight corners, five guilds: each guild g dips at corner 3 + g, by its cloth. */
+    private static void theMost() {
+        StringBuilder text = new StringBuilder();
+        for (int c = 0; c < 8; c++) {
+            text.append("corner ").append((char) ('a' + c)).append(" wind ").append(c);
+            text.append(c > 3 ? " gust 50 of 20;" : ";");
+        }
+        GuildBanner x = Due.told(text + guilds(5) + "pull wind=cloth+2;hold 0;");
+        for (int g = 0; g < 5; g++) {
+            Due.is("far(" + g + ")", x.far(g), 3 + g);
+            Due.is("odds of " + g, x.odds(g, 0), g == 0 ? 0 : 1);
+            Due.is("odds of " + g, x.odds(g, 1), g == 0 ? 1 : 2);
+            Due.is("least(" + g + ")", x.least(g), -1);
+        }
+        Due.is("will(8, 0)", x.will(8, 0), 0);
+        Due.is("will(7, 0)", x.will(7, 0), 16);
+        Due.is("worst", x.worst(), 3);
+        Due.is("law(0)", x.law(0), 0);
+        Due.is("law(5): CLOTH 0 dips at the third", x.law(5), 0);
+        Due.is("street", x.street(), 0);
+        Due.lies("street", x, 0, 1, 2, 3, 4);
+        Due.is("largest: not all can", x.largest(), -1);
+        Due.is("ask", x.ask(1, 0), 101);
+        for (int c = 0; c < 8; c++) {
+            x.step();
+        }
+        Due.is("behind eight", x.about(3), 8);
+        Due.is("no ninth", x.step(), -1);
+        Due.is("seen behind eight", x.seen(8, 4, false), 0);
+        Due.is("all fit", x.fits(0), 101);
+        Due.is("seen behind seven", x.seen(7, 4, false), 1);
+        Due.is("none fits", x.fits(0), 0);
     }
 
     private static void nothingIsDone() {

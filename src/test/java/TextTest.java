@@ -4,6 +4,7 @@ public final class TextTest {
 
     public static void main(String[] args) {
         tape();
+        textsEnd();
         townIsReplaced();
         tokens();
         lines();
@@ -49,6 +50,30 @@ public final class TextTest {
         y.end(8);
         Due.is("bytes come highest first", y.town(), 0);
         Due.is("draw 123", y.about(5), 123);
+    }
+
+    /** What lay on the tape behind its end is not read. */
+    private static void textsEnd() {
+        String[] texts = {"draw 1", "draw", "draw 1 ;", "draw 1; ", "corner ab"};
+        for (String text : texts) {
+            for (String behind : new String[] {"a", "1", " ", ";", "#"}) {
+                GuildBanner x = new GuildBanner();
+                Due.feed(x, text + behind);
+                x.end(text.length());
+                boolean whole = text.contains(";");
+                Due.is("town of " + text + " cut from " + behind, x.town(), whole ? 0 : -1);
+                Due.is("fault of " + text + " cut from " + behind, x.fault(0), whole ? 0 : 2);
+                Due.is("place of " + text + " cut from " + behind, x.fault(1), whole ? -1 : text.length());
+            }
+        }
+        String blanks = " ".repeat(1590);
+        Due.fault(blanks + "draw  1234", 4, 1596);
+        Due.fault(blanks + "draw    12", 2, 1600);
+        Due.fault(blanks + "corner  ab", 2, 1600);
+        Due.fault(blanks + "corner abc", 2, 1600);
+        Due.fault(blanks + "draw   12;", 0, -1);
+        Due.fault(blanks + "draw 12;  ", 0, -1);
+        Due.fault(blanks + "draw 12; #", 1, 1599);
     }
 
     private static void townIsReplaced() {
@@ -180,6 +205,7 @@ public final class TextTest {
         Due.fault("guild a cloth 1 true 0 strong 100 reef 0;", 4, 30);
         Due.fault("guild a cloth 1 true 0 strong 0 reef 21;", 4, 37);
         Due.fault("draw 999;", 0, -1);
+        Due.fault("draw 0;", 0, -1);
         Due.fault("draw 1000;", 4, 5);
         Due.fault("pull 9999;", 0, -1);
         Due.fault("corner a wind 100 x", 4, 14);

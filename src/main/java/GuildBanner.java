@@ -462,7 +462,7 @@ public final class GuildBanner {
         private static final int LONGEST_NUMBER = 4;
         private static final String SIGNS = ";()<>=+-*/%";
         private static final String SPELLED =
-                "wind lee cloth ahead true strong day corner gust of guild reef pull hold draw or and not";
+            "wind lee cloth ahead true strong day corner gust of guild reef pull hold draw or and not";
 
         private final long[] spellings = new long[WORDS];
         private byte[] bytes = new byte[0];
@@ -1221,12 +1221,12 @@ public final class GuildBanner {
             return down;
         }
 
-        /** Whether all of these COME ROUND, by one gust at each CORNER. */
-        boolean bringsRound(State state, int guilds, int gust) {
-            for (int n = 0; n < MAX_CORNERS && (state.up & guilds) == guilds; n++) {
+        /** Whether a GUILD COMES ROUND, by one gust at each CORNER. */
+        boolean bringsRound(State state, int guild, int gust) {
+            for (int n = 0; n < MAX_CORNERS && state.isUp(guild); n++) {
                 pass(state, gust);
             }
-            return (state.up & guilds) == guilds;
+            return state.isUp(guild);
         }
 
         int howManyRound(State state) {
@@ -1323,7 +1323,9 @@ public final class GuildBanner {
 
     /** What lies ahead of the State that is now, tried on another one. */
     private static final class Outlook {
-        private static final int REEFS_OF_LARGEST_BITS = 2;
+        private static final int LARGEST_BITS = 2;
+        private static final int LARGEST_REEFS = 1 << LARGEST_BITS;
+        private static final int LARGEST_TWOS = LARGEST_REEFS * LARGEST_REEFS;
         private static final int RIVAL_REEFS = 6;
         private static final int BETTER_THAN_CLOTH = 100;
         private static final int ORDERS = 120;
@@ -1338,6 +1340,8 @@ public final class GuildBanner {
         private final State trial = new State();
         private final int[] ranks = new int[RIVAL_REEFS * RIVAL_REEFS];
         private final int[] otherRanks = new int[RIVAL_REEFS * RIVAL_REEFS];
+        private final boolean[] staysUp = new boolean[MAX_GUILDS * LARGEST_TWOS];
+        private final int[] aheads = new int[MAX_GUILDS];
         private final int[] tried = new int[MAX_GUILDS];
         private final int[] best = new int[MAX_GUILDS];
         private int leastDifference;
@@ -1372,7 +1376,7 @@ public final class GuildBanner {
             for (int reef = 0; reef <= MAX_REEF; reef++) {
                 trial.copyFrom(now);
                 trial.reefs[guild] = reef;
-                if (course.bringsRound(trial, 1 << guild, 0)) {
+                if (course.bringsRound(trial, guild, 0)) {
                     return reef;
                 }
             }
@@ -1381,19 +1385,18 @@ public final class GuildBanner {
 
         int largestBanners() {
             lying.clear();
-            int bearers = bearersUp();
-            int choices = 1 << REEFS_OF_LARGEST_BITS * Integer.bitCount(bearers);
+            int bearers = weighLargest();
+            int choices = 1 << LARGEST_BITS * bearers;
             int most = NONE;
             for (int choice = 0; choice < choices; choice++) {
-                trial.copyFrom(now);
-                int cloth = reefTrial(bearers, choice);
-                if (cloth > most && course.bringsRound(trial, bearers, 0)) {
+                int cloth = chooseReefs(bearers, choice);
+                if (cloth > most && allStayUp()) {
                     most = cloth;
-                    keepReefs(bearers);
+                    System.arraycopy(tried, 0, best, 0, MAX_GUILDS);
                 }
             }
-            for (int guild = 0; guild < told.guilds && most != NONE; guild++) {
-                lying.add(best[guild]);
+            if (most != NONE) {
+                layBest();
             }
             return most;
         }
@@ -1481,7 +1484,7 @@ public final class GuildBanner {
             for (int more = 0; now.children[guild] + more <= MAX_CHILDREN; more++) {
                 trial.copyFrom(now);
                 trial.children[guild] += more;
-                if (course.bringsRound(trial, 1 << guild, 0)) {
+                if (course.bringsRound(trial, guild, 0)) {
                     return more;
                 }
             }
@@ -1574,34 +1577,72 @@ public final class GuildBanner {
             return upper ? part / common : all / common;
         }
 
-        private int bearersUp() {
+        /**
+         * How many BEARERS are UP. As all of them must stay so, each one's fate hangs on its own
+         * REEF and that of the one ahead alone: these are tried here, and not all of them together.
+         */
+        private int weighLargest() {
             int bearers = 0;
-            for (int guild = 0; guild < told.guilds; guild++) {
+            int ahead = NONE;
+            for (int place = 0; place < told.guilds; place++) {
+                int guild = now.order[place];
                 if (now.isBearerUp(guild)) {
-                    bearers |= 1 << guild;
+                    aheads[guild] = ahead;
+                    for (int reefs = 0; reefs < LARGEST_TWOS; reefs++) {
+                        staysUp[guild * LARGEST_TWOS + reefs] = staysUpBy(guild, ahead, reefs);
+                    }
+                    ahead = guild;
+                    bearers++;
                 }
             }
             return bearers;
         }
 
-        /** The first GUILD has the highest digit, so that choices come GUILD by GUILD. */
-        private int reefTrial(int bearers, int choice) {
+        /** The REEF of the one ahead is the higher digit. */
+        private boolean staysUpBy(int guild, int ahead, int reefs) {
+            trial.copyFrom(now);
+            trial.reefs[guild] = reefs % LARGEST_REEFS;
             int cloth = 0;
-            int shift = REEFS_OF_LARGEST_BITS * Integer.bitCount(bearers);
+            if (ahead != NONE) {
+                trial.reefs[ahead] = reefs / LARGEST_REEFS;
+                cloth = course.clothOf(trial, ahead);
+            }
+            for (int n = 0; n < MAX_CORNERS && !course.isRound(trial); n++) {
+                course.weigh(trial, guild, cloth, 0);
+                if (course.pull > course.hold) {
+                    return false;
+                }
+                trial.standing++;
+            }
+            return true;
+        }
+
+        /** CLOTH together. The first GUILD has the highest digit: choices come GUILD by GUILD. */
+        private int chooseReefs(int bearers, int choice) {
+            int cloth = 0;
+            int shift = LARGEST_BITS * bearers;
             for (int guild = 0; guild < told.guilds; guild++) {
-                if ((bearers >> guild & 1) == 1) {
-                    shift -= REEFS_OF_LARGEST_BITS;
-                    trial.reefs[guild] = choice >> shift & (1 << REEFS_OF_LARGEST_BITS) - 1;
-                    cloth += course.clothOf(trial, guild);
+                tried[guild] = NONE;
+                if (now.isBearerUp(guild)) {
+                    shift -= LARGEST_BITS;
+                    tried[guild] = choice >> shift & LARGEST_REEFS - 1;
+                    cloth += Math.max(0, told.cloths[guild] - tried[guild]);
                 }
             }
             return cloth;
         }
 
-        private void keepReefs(int bearers) {
+        private boolean allStayUp() {
             for (int guild = 0; guild < told.guilds; guild++) {
-                best[guild] = (bearers >> guild & 1) == 1 ? trial.reefs[guild] : NONE;
+                if (tried[guild] != NONE) {
+                    int reefAhead = aheads[guild] == NONE ? 0 : tried[aheads[guild]];
+                    int reefs = reefAhead * LARGEST_REEFS + tried[guild];
+                    if (!staysUp[guild * LARGEST_TWOS + reefs]) {
+                        return false;
+                    }
+                }
             }
+            return true;
         }
 
         private void layBest() {
@@ -1686,7 +1727,7 @@ public final class GuildBanner {
 
         private boolean bearsGust(int guild, int gust) {
             trial.copyFrom(now);
-            return course.bringsRound(trial, 1 << guild, gust);
+            return course.bringsRound(trial, guild, gust);
         }
 
         /** The chance of just these gusts, if the GUILD COMES ROUND by them; else 0. */

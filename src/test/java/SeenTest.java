@@ -58,6 +58,18 @@ public final class SeenTest {
         Due.is("least", x.sure(0, 0), 0);
         Due.is("greatest", x.sure(1, 0), 69);
         Due.is("an untold one stays", x.about(8), 3);
+        String edges = "corner a wind 3;guild x cloth 1 true 5 strong 0;hold 0;";
+        GuildBanner least = Due.told(edges + "pull true>0;");
+        least.seen(1, 0, true);
+        Due.is("0 alone", least.fits(0), 1);
+        Due.is("0 is the least", least.sure(0, 0), 0);
+        Due.is("0 is the greatest", least.sure(1, 0), 0);
+        GuildBanner most = Due.told(edges + "pull true<100;");
+        most.seen(1, 0, true);
+        Due.is("100 alone", most.fits(0), 1);
+        Due.is("100 is the least", most.sure(0, 0), 100);
+        Due.is("100 is the greatest", most.sure(1, 0), 100);
+        Due.is("one is left", most.ask(1, 0), 1);
         GuildBanner y = Due.told(TOWN);
         y.seen(0, 1, false);
         Due.is("behind no corner all are UP", y.fits(0), 0);

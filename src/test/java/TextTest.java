@@ -303,6 +303,10 @@ public final class TextTest {
         Due.fault("pull ();", 2, 6);
         Due.fault("pull 1 and;", 2, 10);
         Due.fault("pull or 1;", 2, 5);
+        Due.fault("pull 1 or;", 2, 9);
+        Due.fault("pull not 1 or 2 or", 2, 18);
+        Due.fault("pull 1*;", 2, 7);
+        Due.fault("pull 1<;", 2, 7);
         Due.fault("pull reef;", 2, 5);
         Due.fault("pull gust;", 2, 5);
         Due.fault("pull x;", 2, 5);
